@@ -44,12 +44,6 @@ final class PromisesTest {
         DUES.end();
     }
 
-    private static PauseLedger dinnerOf(int guests) {
-        PauseLedger x = new PauseLedger();
-        x.newDinner(guests);
-        return x;
-    }
-
     private static void promise1NewObject() {
         PauseLedger x = new PauseLedger();
         DUES.due("1 guests", x::guests, 4);
@@ -85,7 +79,7 @@ final class PromisesTest {
     }
 
     private static void promise2ForgetsAllButTheLimit() {
-        PauseLedger x = dinnerOf(10);
+        PauseLedger x = Tables.dinnerOf(10);
         x.setLimit(3);
         x.pass(9);
         x.glance(0, 5);
@@ -113,7 +107,7 @@ final class PromisesTest {
         DUES.due("2 isUnderWay", () -> x.isUnderWay(0, 5), false);
         DUES.due("2 meetings", x::meetings, 0);
         DUES.due("2 lostGlances", x::lostGlances, 0);
-        PauseLedger fresh = dinnerOf(10);
+        PauseLedger fresh = Tables.dinnerOf(10);
         fresh.setLimit(3);
         DUES.due("2 digest as of a new one", x::digest, fresh.digest());
         DUES.due("2 glance anew", () -> x.glance(0, 5), 10);
@@ -178,7 +172,7 @@ final class PromisesTest {
     }
 
     private static void promise6Glance() {
-        PauseLedger x = dinnerOf(10);
+        PauseLedger x = Tables.dinnerOf(10);
         DUES.noGuest("6 glance(10, 0)", () -> x.glance(10, 0));
         DUES.noGuest("6 glance(0, 10)", () -> x.glance(0, 10));
         DUES.noGuest("6 glance(0, -1)", () -> x.glance(0, -1));
@@ -194,10 +188,10 @@ final class PromisesTest {
         x.pass(2);
         DUES.due("6 glance(9, 0), the first is over", () -> x.glance(9, 0), 2);
         DUES.badState("6 glance(8, 1) again", () -> x.glance(8, 1));
-        PauseLedger two = dinnerOf(2);
+        PauseLedger two = Tables.dinnerOf(2);
         DUES.due("6 of two guests", () -> two.glance(1, 0), 2);
         DUES.noGuest("6 of two guests, a third", () -> two.glance(1, 2));
-        PauseLedger full = dinnerOf(10);
+        PauseLedger full = Tables.dinnerOf(10);
         for (int from = 0; from < 10; from++) {
             for (int to = 0; to < 10; to++) {
                 if (from != to) {
@@ -250,9 +244,9 @@ final class PromisesTest {
     }
 
     private static void promise8Guests() {
-        DUES.due("8 guests, 2", dinnerOf(2)::guests, 2);
-        DUES.due("8 guests, 7", dinnerOf(7)::guests, 7);
-        DUES.due("8 guests, 10", dinnerOf(10)::guests, 10);
+        DUES.due("8 guests, 2", Tables.dinnerOf(2)::guests, 2);
+        DUES.due("8 guests, 7", Tables.dinnerOf(7)::guests, 7);
+        DUES.due("8 guests, 10", Tables.dinnerOf(10)::guests, 10);
     }
 
     private static void promise9Seconds() {
@@ -279,7 +273,7 @@ final class PromisesTest {
     }
 
     private static void promise11SeatsApart() {
-        PauseLedger x = dinnerOf(10);
+        PauseLedger x = Tables.dinnerOf(10);
         DUES.due("11 the same", () -> x.seatsApart(9, 9), 0);
         DUES.due("11 across the table", () -> x.seatsApart(2, 7), 5);
         DUES.due("11 the last beside the first", () -> x.seatsApart(9, 0), 1);
@@ -288,11 +282,11 @@ final class PromisesTest {
         DUES.noGuest("11 seatsApart(10, 10)", () -> x.seatsApart(10, 10));
         DUES.noGuest("11 seatsApart(0, 10)", () -> x.seatsApart(0, 10));
         DUES.noGuest("11 seatsApart(-1, 0)", () -> x.seatsApart(-1, 0));
-        PauseLedger odd = dinnerOf(7);
+        PauseLedger odd = Tables.dinnerOf(7);
         DUES.due("11 of 7, 0 and 3", () -> odd.seatsApart(0, 3), 3);
         DUES.due("11 of 7, 0 and 4", () -> odd.seatsApart(0, 4), 3);
-        DUES.due("11 of 2", () -> dinnerOf(2).seatsApart(0, 1), 1);
-        DUES.noGuest("11 of 2, a third", () -> dinnerOf(2).seatsApart(0, 2));
+        DUES.due("11 of 2", () -> Tables.dinnerOf(2).seatsApart(0, 1), 1);
+        DUES.noGuest("11 of 2, a third", () -> Tables.dinnerOf(2).seatsApart(0, 2));
     }
 
     private static void promise12Speaker() {
@@ -392,7 +386,7 @@ final class PromisesTest {
     }
 
     private static void promise19IsUnderWay() {
-        PauseLedger x = dinnerOf(6);
+        PauseLedger x = Tables.dinnerOf(6);
         x.glance(0, 3);
         DUES.due("19 under way", () -> x.isUnderWay(0, 3), true);
         DUES.due("19 not back", () -> x.isUnderWay(3, 0), false);
@@ -407,7 +401,7 @@ final class PromisesTest {
     }
 
     private static void promise20SecondsToGo() {
-        PauseLedger x = dinnerOf(6);
+        PauseLedger x = Tables.dinnerOf(6);
         x.glance(0, 3);
         DUES.due("20 at once", () -> x.secondsToGo(0, 3), 6);
         DUES.due("20 none back", () -> x.secondsToGo(3, 0), 0);
@@ -470,7 +464,7 @@ final class PromisesTest {
     }
 
     private static void promise24GlancesUnderWay() {
-        PauseLedger x = dinnerOf(5);
+        PauseLedger x = Tables.dinnerOf(5);
         x.glance(0, 1);
         x.glance(1, 3);
         x.glance(3, 1);
@@ -482,7 +476,7 @@ final class PromisesTest {
     }
 
     private static void promise25Meetings() {
-        PauseLedger x = dinnerOf(10);
+        PauseLedger x = Tables.dinnerOf(10);
         x.glance(0, 5);
         x.pass(9);
         x.glance(5, 0);
@@ -528,7 +522,7 @@ final class PromisesTest {
     }
 
     private static void promise28Rating() {
-        PauseLedger x = dinnerOf(2);
+        PauseLedger x = Tables.dinnerOf(2);
         DUES.due("28 nothing unsaid", x::rating, 6);
         x.cough(0, 7);
         DUES.due("28 7 of 2, cut", x::rating, 9);
@@ -562,7 +556,7 @@ final class PromisesTest {
         DUES.due("29 nothing is changed", x::digest, before);
         x.pass(120);
         DUES.due("29 as it came", x::allUnsaid, 30);
-        PauseLedger ten = dinnerOf(10);
+        PauseLedger ten = Tables.dinnerOf(10);
         ten.cough(9, 6);
         ten.pass(3);
         DUES.due("29 allUnsaidIn(1), pause 3", () -> ten.allUnsaidIn(1), 6);
@@ -594,7 +588,7 @@ final class PromisesTest {
     }
 
     private static void promise31WouldLeave() {
-        PauseLedger x = dinnerOf(6);
+        PauseLedger x = Tables.dinnerOf(6);
         DUES.noGuest("31 wouldLeave(6, 6)", () -> x.wouldLeave(6, 6));
         DUES.noGuest("31 wouldLeave(0, -1)", () -> x.wouldLeave(0, -1));
         DUES.badArgument("31 wouldLeave(5, 5)", () -> x.wouldLeave(5, 5));
@@ -617,7 +611,7 @@ final class PromisesTest {
     }
 
     private static void promise32BestMoment() {
-        PauseLedger x = dinnerOf(10);
+        PauseLedger x = Tables.dinnerOf(10);
         DUES.noGuest("32 bestMoment(10, 10)", () -> x.bestMoment(10, 10));
         DUES.noGuest("32 bestMoment(0, -1)", () -> x.bestMoment(0, -1));
         DUES.badArgument("32 bestMoment(9, 9)", () -> x.bestMoment(9, 9));
@@ -651,14 +645,14 @@ final class PromisesTest {
         DUES.due("33 nothing is changed", x::digest, before);
         x.setLimit(1);
         DUES.due("33 at least 0", () -> x.ratingIn(120), 0);
-        PauseLedger two = dinnerOf(2);
+        PauseLedger two = Tables.dinnerOf(2);
         two.cough(1, 7);
         two.pass(4);
         DUES.due("33 of two guests", () -> two.ratingIn(1), 10);
     }
 
     private static void promise34MeanUnsaid() {
-        PauseLedger x = dinnerOf(10);
+        PauseLedger x = Tables.dinnerOf(10);
         DUES.due("34 nothing", x::meanUnsaid, 0.0);
         x.cough(0, 9);
         x.cough(9, 4);
@@ -710,7 +704,7 @@ final class PromisesTest {
     }
 
     private static void thrownCallsChangeNothing() {
-        PauseLedger x = dinnerOf(3);
+        PauseLedger x = Tables.dinnerOf(3);
         x.glance(0, 1);
         x.speak(2, 9);
         x.cough(1, 8);
